@@ -131,10 +131,7 @@ public final class VowCourt {
         checkPossible(first.mayVow() && second.mayVow() && vows.size() < MOST_VOWS);
         boolean needsForm = first.riteNow == RITE_OF_THE_FORM || second.riteNow == RITE_OF_THE_FORM;
         boolean hasForm = today < facultyEnds[witness][place] || errors[place];
-        Vow made = new Vow(one, other, place, today);
-        made.lasting = lastingHindrances(one, other);
-        made.lacksForm = needsForm && !hasForm;
-        vows.add(made);
+        vows.add(new Vow(one, other, place, today, lastingHindrances(one, other), needsForm && !hasForm));
         return vows.size() - 1;
     }
 
@@ -541,16 +538,18 @@ public final class VowCourt {
         final int other;
         final int place;
         final int day;
-        int lasting = 0;
-        boolean lacksForm = false;
+        final int lasting;
+        boolean lacksForm;
         int status = STANDS;
         int turned = NONE;
 
-        Vow(int one, int other, int place, int day) {
+        Vow(int one, int other, int place, int day, int lasting, boolean lacksForm) {
             this.one = one;
             this.other = other;
             this.place = place;
             this.day = day;
+            this.lasting = lasting;
+            this.lacksForm = lacksForm;
         }
 
         boolean isOf(int person) {

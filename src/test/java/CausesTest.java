@@ -192,6 +192,7 @@ public final class CausesTest {
     }
 
     private static void promise20SentenceIsOfTwo() {
+        CHECK.is("for all grounds", sentenceOf(127, 127, 0), 127);
         CHECK.is("two and three", sentenceOf(1 + 2, 2 + 4, 1 + 2 + 8), 1 + 2);
         CHECK.is("first and second", sentenceOf(1, 1, 0), 1);
         CHECK.is("first and third", sentenceOf(1, 0, 1), 1);

@@ -229,6 +229,9 @@ public final class RandomRunsTest {
     }
 
     private static int bitOf(RuntimeException e) {
+        if (!Check.isThrownByCourt(e)) {
+            return 0;
+        }
         if (e.getClass() == IndexOutOfBoundsException.class) {
             return INDEX;
         }

@@ -8,6 +8,7 @@ public final class VowsTest {
         promise08DispenseAge();
         promise08DispenseKin();
         promise08DispenseOrder();
+        promise08DispenseTwice();
         promise08DispenseIsRefused();
         promise09Faculty();
         promise09FacultyOfEachPlaceAndWitness();
@@ -80,11 +81,26 @@ public final class VowsTest {
         CHECK.fails(court, "it still was", Check.STATE, () -> court.dispense(1, 0, VowCourt.ORDER));
     }
 
+    private static void promise08DispenseTwice() {
+        VowCourt court = new VowCourt();
+        court.person(LEAST, -1, -1, 0);
+        court.person(LEAST, -1, -1, 0);
+        court.order(0);
+        court.dispense(0, 1, VowCourt.AGE);
+        CHECK.is("age alone", court.hindered(court.vow(0, 1, 0, 0)), VowCourt.ORDER);
+        court.documents(0);
+        court.dispense(0, 1, VowCourt.ORDER);
+        CHECK.is("both", court.hindered(court.vow(0, 1, 0, 0)), 0);
+        court.documents(1);
+        CHECK.is("both, in the other order", court.hindered(court.vow(1, 0, 0, 0)), 0);
+    }
+
     private static void promise08DispenseIsRefused() {
         VowCourt court = Courts.with(2);
         court.order(0);
         CHECK.fails(court, "no person", Check.INDEX, () -> court.dispense(2, 0, VowCourt.ORDER));
         CHECK.fails(court, "no other one", Check.INDEX, () -> court.dispense(0, 2, VowCourt.ORDER));
+        CHECK.fails(court, "no person, kind 4", Check.INDEX, () -> court.dispense(2, 0, VowCourt.BOND));
         CHECK.fails(court, "person -1", Check.INDEX, () -> court.dispense(-1, 0, VowCourt.ORDER));
         CHECK.fails(court, "other one -1, kind 0", Check.INDEX, () -> court.dispense(0, -1, 0));
         CHECK.fails(court, "the same", Check.ARGUMENT, () -> court.dispense(0, 0, VowCourt.ORDER));
@@ -191,7 +207,13 @@ public final class VowsTest {
         court.pass(1);
         CHECK.is("on the next day", court.hindered(court.vow(2, 1, 0, 0)), 0);
         CHECK.is("the earlier vow is hindered still", court.hindered(1), VowCourt.AGE);
-        CHECK.is("born just now", court.hindered(court.vow(0, court.person(0, -1, -1, 0), 0, 0)), VowCourt.AGE);
+        court.pass(FULL);
+        int told = court.person(FULL - 1, -1, -1, 0);
+        CHECK.is("an age on a later day", court.hindered(court.vow(told, 0, 0, 0)) & VowCourt.AGE, VowCourt.AGE);
+        court.pass(1);
+        CHECK.is("a day behind it", court.hindered(court.vow(told, 0, 0, 0)) & VowCourt.AGE, 0);
+        CHECK.is("born just now", court.hindered(court.vow(2, court.person(0, -1, -1, 0), 0, 0)) & VowCourt.AGE,
+                VowCourt.AGE);
     }
 
     private static void promise11Kin() {
