@@ -7,7 +7,7 @@ import java.util.concurrent.TimeUnit;
  * classes, and its name. The last line says how many passed and how many failed.
  */
 public final class AllTests {
-    private static final long MOST_SECONDS = 100;
+    private static final long MOST_SECONDS = 50;
 
     public static void main(String[] words) {
         Suite suite = new Suite();

@@ -155,17 +155,17 @@ final class CauseTests {
         suite.test("promise 16: it is PUBLISHED, also for the same doubt", () ->
                 Court.inCause(8).does(c -> c.publish(0)).illegalState(c -> c.doubt(0, 8)));
         suite.test("promise 16: it is REFUSED in the first instance", () ->
-                Court.behind(0).illegalState(c -> c.doubt(0, 2)));
+                Court.behindOf(1, 0).illegalState(c -> c.doubt(0, 2)));
         suite.test("promise 16: it is OPEN in the second instance", () ->
-                Court.behind(1).illegalState(c -> c.doubt(0, 2)));
+                Court.behindOf(1, 1).illegalState(c -> c.doubt(0, 2)));
         suite.test("promise 16: it is OPEN in the second instance by appeal", () ->
-                Court.behind(0).does(c -> c.appeal(0)).illegalState(c -> c.doubt(0, 2)));
+                Court.behindOf(1, 0).does(c -> c.appeal(0)).illegalState(c -> c.doubt(0, 2)));
         suite.test("promise 16: it is OPEN in the third instance", () ->
-                Court.behind(1, 0).illegalState(c -> c.doubt(0, 2)));
+                Court.behindOf(1, 1, 0).illegalState(c -> c.doubt(0, 2)));
         suite.test("promise 16: it is PUBLISHED in the second instance", () ->
-                Court.behind(1).does(c -> c.publish(0)).illegalState(c -> c.doubt(0, 2)));
-        suite.test("promise 16: it is NULLIFIED", () -> Court.behind(1, 1).illegalState(c -> c.doubt(0, 2)));
-        suite.test("promise 16: it is REFUSED for good", () -> Court.behind(1, 0, 0).illegalState(c -> c.doubt(0, 2)));
+                Court.behindOf(1, 1).does(c -> c.publish(0)).illegalState(c -> c.doubt(0, 2)));
+        suite.test("promise 16: it is NULLIFIED", () -> Court.behindOf(1, 1, 1).illegalState(c -> c.doubt(0, 2)));
+        suite.test("promise 16: it is REFUSED for good", () -> Court.behindOf(1, 1, 0, 0).illegalState(c -> c.doubt(0, 2)));
     }
 
     private static void doubtKeepsProofs(Suite suite) {

@@ -58,7 +58,12 @@ final class Court {
 
     /** The vow 0, and the cause 0 of it behind these sentences, all grounds proved; appealed where it must be. */
     static Court behind(int... sentences) {
-        Court court = inCause(127);
+        return behindOf(127, sentences);
+    }
+
+    /** As behind, with a doubt of less than all grounds. */
+    static Court behindOf(int doubt, int... sentences) {
+        Court court = inCause(doubt);
         for (int at = 0; at < sentences.length; at++) {
             if (at == 1 && sentences[0] == 0) {
                 court.does(c -> c.appeal(0));
@@ -146,6 +151,12 @@ final class Court {
         return refuses(IllegalStateException.class, call);
     }
 
+    /** Makes calls that ask, at most Probes.MOST_LOOKED_AT, and sees that they change nothing. */
+    Court asks(Consumer<VowCourt> calls) {
+        Probes.askingChangesNothing(steps, calls);
+        return this;
+    }
+
     /** Makes a call that throws just this exception, and changes nothing. */
     Court refuses(Class<?> due, Consumer<VowCourt> call) {
         count();
@@ -153,7 +164,7 @@ final class Court {
         if (got != due) {
             throw new AssertionError("threw " + got + ", due is " + due);
         }
-        Probes.sameWith(steps, call);
+        Probes.refusedChangesNothing(steps, call);
         return this;
     }
 

@@ -157,6 +157,9 @@ final class DispenseTests {
                 ordered(2).does(c -> c.dispense(0, 1, ORDER)).does(c -> c.vow(0, 1, 0, 0)).does(c -> c.grace(0))
                         .does(c -> c.pass(500)).does(c -> c.vow(1, 0, 0, 0)).answers(0, c -> c.hindered(0))
                         .answers(0, c -> c.hindered(1)));
+        suite.test("promise 8: for all vows behind that, however late", () ->
+                ordered(2).does(c -> c.dispense(0, 1, ORDER)).does(c -> c.pass(10000)).does(c -> c.pass(10000))
+                        .does(c -> c.pass(10000)).does(c -> c.vow(0, 1, 0, 0)).answers(0, c -> c.hindered(0)));
         suite.test("promise 8: AGE for a second vow too, while one is not 16", () ->
                 Court.aged(LEAST, LEAST).does(c -> c.dispense(0, 1, AGE)).does(c -> c.vow(0, 1, 0, 0))
                         .does(c -> c.grace(0)).does(c -> c.pass(100)).does(c -> c.vow(1, 0, 0, 0))
@@ -182,6 +185,13 @@ final class DispenseTests {
                         .does(c -> c.dispense(1, 3, KIN)).does(c -> c.vow(3, 1, 0, 0)).answers(0, c -> c.hindered(0))
                         .illegalState(c -> c.dispense(1, 3, AGE)).illegalState(c -> c.dispense(1, 3, KIN))
                         .illegalState(c -> c.dispense(1, 3, ORDER)));
+        suite.test("promise 8: a refused dispensation of ORDER does not hold when it is taken later", () ->
+                Court.of(2).illegalState(c -> c.dispense(0, 1, ORDER)).illegalState(c -> c.dispense(1, 0, ORDER))
+                        .does(c -> c.order(0)).does(c -> c.vow(0, 1, 0, 0)).answers(ORDER, c -> c.hindered(0))
+                        .does(c -> c.dispense(0, 1, ORDER)));
+        suite.test("promise 8: it is not asked whether both live", () ->
+                ordered(3).does(c -> c.die(0)).does(c -> c.dispense(0, 1, ORDER)).does(c -> c.die(2))
+                        .does(c -> c.dispense(2, 0, ORDER)));
         suite.test("promise 8: a dispensation is no vow, and binds nobody", () ->
                 ordered(2).does(c -> c.dispense(0, 1, ORDER)).answers(-1, c -> c.bound(0, 0))
                         .outOfBounds(c -> c.hindered(0)));

@@ -18,6 +18,7 @@ final class ExceptionTests {
         argumentBeforeStateOfCauses(suite);
         allThree(suite);
         changesNothing(suite);
+        askingChangesNothing(suite);
     }
 
     private static void index(Suite suite, String what, Consumer<VowCourt> call) {
@@ -193,5 +194,52 @@ final class ExceptionTests {
         argument(suite, "pass changes nothing", c -> c.pass(0));
         argument(suite, "faculty changes nothing", c -> c.faculty(2, 2, 10001));
         argument(suite, "error changes nothing", c -> c.error(8));
+    }
+
+    private static void asks(Suite suite, String what, Consumer<VowCourt> calls) {
+        suite.test("asking changes nothing: " + what, () -> full().asks(calls));
+    }
+
+    private static void askingChangesNothing(Suite suite) {
+        asks(suite, "kin", c -> {
+            for (int pair = 0; pair < 64; pair++) {
+                c.kin(3 + pair / 8, 3 + pair % 8);
+            }
+        });
+        asks(suite, "ancestor", c -> {
+            for (int row = 0; row < 64; row++) {
+                c.ancestor(3 + row / 8, row % 8);
+            }
+        });
+        asks(suite, "hindered", c -> {
+            for (int vow = 0; vow < 30; vow++) {
+                c.hindered(vow);
+            }
+        });
+        asks(suite, "vowOf", c -> {
+            for (int row = 0; row < 60; row++) {
+                c.vowOf(row / 5, row % 5);
+            }
+        });
+        asks(suite, "bound", c -> {
+            for (int row = 0; row < 64; row++) {
+                c.bound(row % 24, row < 24 ? 1000000 : 80 + row);
+            }
+        });
+        asks(suite, "hasCause", c -> {
+            for (int row = 0; row < 64; row++) {
+                c.hasCause(row / 8, row % 8);
+            }
+        });
+        asks(suite, "causeOf", c -> {
+            for (int row = 0; row < 35; row++) {
+                c.causeOf(row / 7, row % 7);
+            }
+        });
+        asks(suite, "state", c -> {
+            for (int row = 0; row < 64; row++) {
+                c.state(row % 24, row < 24 ? 1000000 : 80 + row, row % 20);
+            }
+        });
     }
 }

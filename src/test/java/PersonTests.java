@@ -141,6 +141,9 @@ final class PersonTests {
                 Court.of(2).does(c -> c.order(0)).does(c -> c.pass(10000)).illegalState(c -> c.order(0)));
         suite.test("promise 5: the dead do not take it", () ->
                 Court.of(2).does(c -> c.die(0)).illegalState(c -> c.order(0)));
+        suite.test("promise 5: a refused order of the dead hinders nothing", () ->
+                Court.of(2).does(c -> c.die(0)).illegalState(c -> c.order(0))
+                        .illegalState(c -> c.dispense(0, 1, VowCourt.ORDER)));
         suite.test("promise 5: the dead who had taken it do not take it", () ->
                 Court.of(2).does(c -> c.order(0)).does(c -> c.die(0)).illegalState(c -> c.order(0)));
         suite.test("promise 5: each takes it alone", () ->

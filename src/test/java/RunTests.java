@@ -267,6 +267,10 @@ final class RunTests {
     }
 
     private void movePublished(int number) {
+        if (below(8) == 0) {
+            moveNotNow(number);
+            return;
+        }
         Reading.Cause cause = reading.causes.get(number);
         if (cause.votes.size() == 3 && below(8) != 0) {
             call("sentence", number);
@@ -278,11 +282,20 @@ final class RunTests {
         call("vote", number, judge, below(20) == 0 ? near(128) : below(6) == 0 ? 0 : grounds);
     }
 
-    private void moveOver(int number) {
+    private void moveNotNow(int number) {
         switch (below(4)) {
-            case 0: call("causeOf", number, near(7)); break;
-            case 1: call("proof", number, near(7), 1); break;
-            default: call("appeal", number); break;
+            case 0: call("doubt", number, near(128)); break;
+            case 1: call("publish", number); break;
+            case 2: call("appeal", number); break;
+            default: call("proof", number, near(7), below(21) - 10); break;
+        }
+    }
+
+    private void moveOver(int number) {
+        if (below(3) == 0) {
+            moveNotNow(number);
+        } else {
+            call("appeal", number);
         }
     }
 

@@ -3,7 +3,7 @@ import java.util.HashSet;
 
 /** Tests by name. Each is run alone, fails by whatever it throws, and has a time within which it must end. */
 final class Suite {
-    private static final long MOST_MILLISECONDS = 120_000;
+    private static final long MOST_MILLISECONDS = 60_000;
 
     private final ArrayList<String> names = new ArrayList<>();
     private final ArrayList<Runnable> bodies = new ArrayList<>();

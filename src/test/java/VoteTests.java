@@ -62,6 +62,12 @@ final class VoteTests {
                 doubting(2).illegalState(c -> c.proof(0, 0, 0)));
         suite.test("promise 17: it is PUBLISHED", () ->
                 doubting(1).does(c -> c.publish(0)).illegalState(c -> c.proof(0, 0, 1)));
+        suite.test("promise 17: it is PUBLISHED, and a refused proof weighs nothing in the next instance", () ->
+                Court.inCause(1).does(c -> c.publish(0)).illegalState(c -> c.proof(0, 0, 9)).votes(0, 1, 1, 1)
+                        .does(c -> c.sentence(0)).answers(10, c -> c.proof(0, 0, 0)));
+        suite.test("promise 17: the ground is not of the doubt, and a refused proof weighs nothing later", () ->
+                doubting(1).illegalState(c -> c.proof(0, 1, 9)).does(c -> c.doubt(0, 3))
+                        .answers(0, c -> c.proof(0, 1, 0)));
         suite.test("promise 17: it is PUBLISHED, with votes", () ->
                 doubting(1).does(c -> c.publish(0)).votes(0, 0, 0, 0).illegalState(c -> c.proof(0, 0, 1)));
         suite.test("promise 17: it is PUBLISHED in the second instance", () ->
@@ -190,6 +196,9 @@ final class VoteTests {
                 Court.inCause(1).does(c -> c.publish(0)).does(c -> c.vow(2, 3, 3, 0)).does(c -> c.cause(1, 3, 1, false))
                         .does(c -> c.publish(1)).does(c -> c.vote(0, 0, 1)).answers(1, c -> c.vote(1, 0, 0))
                         .answers(2, c -> c.vote(0, 1, 1)));
+        suite.test("promise 19: a second vote of a judge that is refused takes nothing from the first", () ->
+                Court.inCause(1).does(c -> c.publish(0)).does(c -> c.vote(0, 0, 1)).illegalState(c -> c.vote(0, 0, 0))
+                        .does(c -> c.vote(0, 1, 1)).does(c -> c.vote(0, 2, 0)).answers(1, c -> c.sentence(0)));
         suite.test("promise 19: a refused vote does not count", () ->
                 Court.inCause(1).does(c -> c.publish(0)).illegalState(c -> c.vote(0, 0, 2))
                         .illegalArgument(c -> c.vote(0, 0, 128)).answers(0, c -> c.causeOf(0, 6))

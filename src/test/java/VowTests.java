@@ -99,6 +99,9 @@ final class VowTests {
         suite.test("promise 13: it is DISSOLVED", () ->
                 Court.vowed().does(c -> c.grace(0)).does(c -> c.pass(1)).illegalState(c -> c.grace(0)));
         suite.test("promise 13: it has ENDED", () -> Court.vowed().does(c -> c.die(0)).illegalState(c -> c.grace(0)));
+        suite.test("promise 13: it has ENDED, and a refused grace leaves the day of its end", () ->
+                Court.vowed().does(c -> c.die(0)).does(c -> c.pass(4)).illegalState(c -> c.grace(0))
+                        .vowIs(0, VowCourt.ENDED, 0));
         suite.test("promise 13: it is NULL by documents", () ->
                 Court.vowed().does(c -> c.documents(0)).illegalState(c -> c.grace(0)));
         suite.test("promise 13: it is NULL by sentences", () -> Court.behind(2, 2).illegalState(c -> c.grace(0)));
