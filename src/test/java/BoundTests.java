@@ -103,7 +103,8 @@ final class BoundTests {
 
     private static void lowest(Suite suite) {
         suite.test("promise 27: the lowest of two vows", () ->
-                Court.vowed().does(c -> c.vow(2, 0, 0, 0)).answers(0, c -> c.bound(0, 0)).answers(1, c -> c.bound(2, 0)));
+                Court.vowed().does(c -> c.vow(2, 0, 0, 0)).answers(0, c -> c.bound(0, 0))
+                        .answers(1, c -> c.bound(2, 0)));
         suite.test("promise 27: the next one when the lowest one is DISSOLVED", () ->
                 Court.vowed().does(c -> c.vow(2, 0, 0, 0)).does(c -> c.pass(5)).does(c -> c.grace(0))
                         .answers(0, c -> c.bound(0, 4)).answers(1, c -> c.bound(0, 5)));

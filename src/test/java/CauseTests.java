@@ -27,7 +27,8 @@ final class CauseTests {
                 Court.vowed().does(c -> c.cause(0, 3, 1, false)).vowIs(0, VowCourt.STANDS, -1)
                         .answers(0, c -> c.bound(0, 0)));
         suite.test("promise 15: the doubt may be of a ground that has nothing to it", () ->
-                Court.of(2).does(c -> c.error(0)).does(c -> c.vow(0, 1, 0, 0)).answers(0, c -> c.cause(0, 0, 3, false)));
+                Court.of(2).does(c -> c.error(0)).does(c -> c.vow(0, 1, 0, 0))
+                        .answers(0, c -> c.cause(0, 0, 3, false)));
         suite.test("promise 15: a refused cause takes no number", () ->
                 Court.vowed().illegalState(c -> c.cause(0, 2, 1, false)).illegalArgument(c -> c.cause(0, 3, 0, false))
                         .answers(0, c -> c.cause(0, 3, 1, false)));
@@ -165,14 +166,16 @@ final class CauseTests {
         suite.test("promise 16: it is PUBLISHED in the second instance", () ->
                 Court.behindOf(1, 1).does(c -> c.publish(0)).illegalState(c -> c.doubt(0, 2)));
         suite.test("promise 16: it is NULLIFIED", () -> Court.behindOf(1, 1, 1).illegalState(c -> c.doubt(0, 2)));
-        suite.test("promise 16: it is REFUSED for good", () -> Court.behindOf(1, 1, 0, 0).illegalState(c -> c.doubt(0, 2)));
+        suite.test("promise 16: it is REFUSED for good", () ->
+                Court.behindOf(1, 1, 0, 0).illegalState(c -> c.doubt(0, 2)));
     }
 
     private static void doubtKeepsProofs(Suite suite) {
         suite.test("promise 16: what was proved of other grounds is kept, and weighs again with them", () ->
                 Court.inCause(8).does(c -> c.doubt(0, 2)).does(c -> c.doubt(0, 10)).answers(9, c -> c.proof(0, 3, -1)));
         suite.test("promise 16: what was proved of other grounds may not be voted for", () ->
-                Court.inCause(8).does(c -> c.doubt(0, 2)).answers(0, c -> c.publish(0)).illegalState(c -> c.vote(0, 0, 8)));
+                Court.inCause(8).does(c -> c.doubt(0, 2)).answers(0, c -> c.publish(0))
+                        .illegalState(c -> c.vote(0, 0, 8)));
         suite.test("promise 16: what was proved of other grounds may be voted for when they are back", () ->
                 Court.inCause(8).does(c -> c.doubt(0, 2)).does(c -> c.doubt(0, 12)).answers(8, c -> c.publish(0))
                         .answers(1, c -> c.vote(0, 0, 8)));

@@ -30,7 +30,8 @@ final class HindranceTests {
         hinders(suite, "AGE: the other of both is a day less", VowCourt.AGE, () -> Court.aged(FULL - 1, FULL), 1, 0);
         hinders(suite, "AGE: both are a day less", VowCourt.AGE, () -> Court.aged(FULL - 1, FULL - 1), 0, 1);
         hinders(suite, "AGE: born today", VowCourt.AGE, () -> Court.aged(0, 36000), 1, 0);
-        hinders(suite, "AGE: one is old, the other one too young", VowCourt.AGE, () -> Court.aged(36000, FULL - 1), 0, 1);
+        hinders(suite, "AGE: one is old, the other one too young", VowCourt.AGE,
+                () -> Court.aged(36000, FULL - 1), 0, 1);
         suite.test("AGE: with the day on which one is 16 it hinders no new vow", () ->
                 Court.aged(FULL - 2, FULL - 1).does(c -> c.pass(1)).does(c -> c.vow(0, 1, 0, 0))
                         .answers(VowCourt.AGE, c -> c.hindered(0)).does(c -> c.documents(0)).does(c -> c.pass(1))
@@ -42,14 +43,16 @@ final class HindranceTests {
 
     private static void kinInLine(Suite suite) {
         hinders(suite, "KIN: in line, degree 1", VowCourt.KIN, () -> Court.family(-1, -1, 0, -1), 0, 1);
-        hinders(suite, "KIN: in line, degree 1, the other way round", VowCourt.KIN, () -> Court.family(-1, -1, 0, -1), 1, 0);
+        hinders(suite, "KIN: in line, degree 1, the other way round", VowCourt.KIN,
+                () -> Court.family(-1, -1, 0, -1), 1, 0);
         for (int steps = 4; steps <= 23; steps++) {
             hinders(suite, "KIN: in line, degree " + steps, VowCourt.KIN,
                     () -> Court.family(KinTests.lineOf24(false)), steps, 0);
         }
         hinders(suite, "KIN: a line of 6 steps, but a way of 5: not in line", 0, () -> lineAndWay(6, 4), 1, 7);
         hinders(suite, "KIN: a line of 5 steps, and a way of 5: in line", VowCourt.KIN, () -> lineAndWay(5, 4), 1, 6);
-        hinders(suite, "KIN: a line of 5 steps, but a way of 4: in that degree", VowCourt.KIN, () -> lineAndWay(5, 3), 1, 6);
+        hinders(suite, "KIN: a line of 5 steps, but a way of 4: in that degree", VowCourt.KIN,
+                () -> lineAndWay(5, 3), 1, 6);
     }
 
     /**
@@ -121,7 +124,8 @@ final class HindranceTests {
                         .answers(0, c -> c.hindered(1)));
         suite.test("BOND: DISSOLVED on the same day behind it hinders not, as is known now", () ->
                 Court.vowed().does(c -> c.pass(1)).does(c -> c.vow(0, 2, 0, 0))
-                        .answers(VowCourt.BOND, c -> c.hindered(1)).does(c -> c.grace(0)).answers(0, c -> c.hindered(1)));
+                        .answers(VowCourt.BOND, c -> c.hindered(1)).does(c -> c.grace(0))
+                        .answers(0, c -> c.hindered(1)));
         suite.test("BOND: DISSOLVED a day behind it hinders still", () ->
                 Court.vowed().does(c -> c.vow(0, 2, 0, 0)).does(c -> c.pass(1)).does(c -> c.grace(0))
                         .answers(VowCourt.BOND, c -> c.hindered(1)));

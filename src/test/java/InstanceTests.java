@@ -192,7 +192,8 @@ final class InstanceTests {
                 Court.inCause(1).illegalState(c -> c.appeal(0)));
         suite.test("promise 21: it is PUBLISHED in the first instance", () ->
                 Court.inCause(1).does(c -> c.publish(0)).illegalState(c -> c.appeal(0)));
-        suite.test("promise 21: it is OPEN in the second instance", () -> Court.behind(1).illegalState(c -> c.appeal(0)));
+        suite.test("promise 21: it is OPEN in the second instance", () ->
+                Court.behind(1).illegalState(c -> c.appeal(0)));
         suite.test("promise 21: it was appealed, and is OPEN", () ->
                 Court.behind(0).does(c -> c.appeal(0)).illegalState(c -> c.appeal(0)));
         suite.test("promise 21: it is REFUSED for good in the second instance", () ->

@@ -39,7 +39,8 @@ final class VoteTests {
         });
         suite.test("promise 17: each cause weighs alone", () ->
                 doubting(1).does(c -> c.vow(2, 3, 3, 0)).does(c -> c.cause(1, 3, 1, false))
-                        .does(c -> c.proof(0, 0, 9)).answers(2, c -> c.proof(1, 0, 2)).answers(9, c -> c.proof(0, 0, 0)));
+                        .does(c -> c.proof(0, 0, 9)).answers(2, c -> c.proof(1, 0, 2))
+                        .answers(9, c -> c.proof(0, 0, 0)));
         suite.test("promise 17: proofs go on into the second instance", () ->
                 Court.behind(1).answers(9, c -> c.proof(0, 0, -1)).answers(12, c -> c.proof(0, 6, 2)));
         suite.test("promise 17: proofs go on into the second instance by appeal", () ->
@@ -164,7 +165,8 @@ final class VoteTests {
         weighs(suite, "weights of 10 and -5 may not be voted for together", 0, 10, -5);
         weighs(suite, "weights of -10 and 10 and 6 may be voted for together", 4, -10, 10, 6);
         suite.test("promise 18: grounds of the doubt alone, and proved alone", () ->
-                Court.inCause(15).does(c -> c.proof(0, 0, -5)).does(c -> c.doubt(0, 7 + 64)).answers(6, c -> c.publish(0)));
+                Court.inCause(15).does(c -> c.proof(0, 0, -5)).does(c -> c.doubt(0, 7 + 64))
+                        .answers(6, c -> c.publish(0)));
         suite.test("promise 18: more is proved in the second instance", () ->
                 doubting(3).does(c -> c.proof(0, 0, 6)).does(c -> c.proof(0, 1, 5)).judges(0, 1)
                         .does(c -> c.proof(0, 1, 1)).answers(3, c -> c.publish(0)));
@@ -175,7 +177,8 @@ final class VoteTests {
 
     private static void vote(Suite suite) {
         suite.test("promise 19: it returns how many have voted, in whatever order", () ->
-                Court.inCause(1).does(c -> c.publish(0)).answers(1, c -> c.vote(0, 2, 1)).answers(2, c -> c.vote(0, 0, 0))
+                Court.inCause(1).does(c -> c.publish(0)).answers(1, c -> c.vote(0, 2, 1))
+                        .answers(2, c -> c.vote(0, 0, 0))
                         .answers(3, c -> c.vote(0, 1, 1)));
         for (int at = 0; at < 3; at++) {
             int judge = at;
@@ -237,6 +240,7 @@ final class VoteTests {
         suite.test("promise 19: some of the grounds that may be voted for", () ->
                 Court.inCause(127).does(c -> c.publish(0)).answers(1, c -> c.vote(0, 0, 42)));
         suite.test("promise 19: for no ground, where none may be voted for", () ->
-                doubting(1).does(c -> c.publish(0)).answers(1, c -> c.vote(0, 0, 0)).illegalState(c -> c.vote(0, 1, 1)));
+                doubting(1).does(c -> c.publish(0)).answers(1, c -> c.vote(0, 0, 0))
+                        .illegalState(c -> c.vote(0, 1, 1)));
     }
 }
