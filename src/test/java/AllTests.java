@@ -25,6 +25,8 @@ public final class AllTests {
         RangeTests.tell(suite);
         ExceptionTests.tell(suite);
         RunTests.tell(suite);
+        LanguageTests.tell(suite);
+        ReadmeTests.tell(suite);
         System.out.println(suite.size() + " tests of the project, " + words.length / 2 + " under ../shared/tests");
         for (int at = 0; at + 1 < words.length; at += 2) {
             String folder = words[at];
